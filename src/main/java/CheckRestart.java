@@ -157,7 +157,7 @@ public final class CheckRestart {
         if (!job.hasFile(file)) {
             return NONE;
         }
-        // As long: an int sum could go round into the allowed range.
+        // As long, so that the test below need not think of sums that go round.
         long length = (long) job.lengths[file] + n;
         if (length < 0 || length > MOST_RECORDS) {
             return NOT_SO;
